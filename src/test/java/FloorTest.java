@@ -184,7 +184,7 @@ public final class FloorTest {
         }
         Due.is("the tape stays by BAD", x.type('N', 1), 3);
         Due.is("a letter too many", x.rule(0), AntFloor.NOT);
-        for (String bad : new String[] {"RS", "MR", "rl", "R ", "XL", "N\0"}) {
+        for (String bad : new String[] {"RS", "MR", "rl", "R ", "XL", "N\0", "N" + (char) ('R' + 128)}) {
             typeAll(x, bad);
             Due.is("rule of " + bad, x.rule(0), AntFloor.NOT);
             Due.is("the tape is empty by NOT", x.type('L', 1), 1);

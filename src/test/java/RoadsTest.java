@@ -16,6 +16,7 @@ public final class RoadsTest {
         paintedAhead();
         paintedAtTheEdge();
         paintedBesideTheRoad();
+        roadFromACorner();
         cellsOfV();
         theHighway();
         differ();
@@ -179,6 +180,15 @@ public final class RoadsTest {
         x.mark();
         x.run(2);
         noRoad(x, "of two ants", 4);
+        x.less();
+        x.run(2);
+        noRoad(x, "of one ant that was one of two", 6);
+        AntFloor none = new AntFloor();
+        FloorTest.rule(none, 0, "NN");
+        none.mark();
+        none.ant(0, 1, 0, 0);
+        none.run(1);
+        noRoad(none, "of an ant that was not there at the mark", 1);
         AntFloor y = new AntFloor();
         y.ant(0, 0, 0, 0);
         y.mark();
@@ -245,6 +255,26 @@ public final class RoadsTest {
         y.mark();
         y.run(7);
         road(y, "with paint in another row", 7, 7, 0, 7);
+    }
+
+    /** The chain from a corner alone tells that it is no road. */
+    private static void roadFromACorner() {
+        for (int side = 0; side < 2; side++) {
+            for (int painted = 0; painted < 2; painted++) {
+                int start = side == 0 ? -120 : 119;
+                int way = side == 0 ? 1 : -1;
+                AntFloor x = new AntFloor();
+                FloorTest.rule(x, 0, "NN");
+                x.ant(start, start, 2 * side, 0);
+                x.paint(start, start + 4 * way, painted);
+                x.mark();
+                x.run(2);
+                Due.is("a road from the corner " + start, x.road(0), painted == 0 ? 2 : 0);
+                Due.is("V of the corner " + start, x.road(3), 2);
+                Due.is("back to the corner " + start, x.run(-2), 2);
+                Due.is("it stands there", x.told(0, 1), start);
+            }
+        }
     }
 
     private static void paintedBesideTheRoad() {

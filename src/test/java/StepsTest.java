@@ -344,6 +344,9 @@ public final class StepsTest {
         for (int what : new int[] {-1, 4, LEAST, MOST}) {
             Due.is("bounds(" + what + ")", x.bounds(what), -1001);
         }
+        for (int[] corner : new int[][] {{-120, -120}, {-120, 119}, {119, -120}, {119, 119}}) {
+            checkBounds(new AntFloor(), corner[0], corner[1], new int[] {corner[0], corner[0], corner[1], corner[1]});
+        }
         x.paint(-120, 119, 0);
         x.paint(119, -120, 0);
         Due.is("bounds shrink", x.bounds(0), -7);
