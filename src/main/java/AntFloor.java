@@ -335,12 +335,12 @@ public final class AntFloor {
         if (n < 0) {
             return SIZE;
         }
-        // Of no items none is missing and no CELL is beyond THE FLOOR, wherever they would begin.
-        if (n == 0) {
-            return 0;
-        }
         if (!one.hasItems(from, n)) {
             return INDEX;
+        }
+        // No items lie on no CELL, so none of these can be beyond THE FLOOR, and no ROAD is broken.
+        if (n == 0) {
+            return 0;
         }
         int start = placeOf(x, y);
         if (start < 0 || placeOf(x + n - 1, y) < 0 || !one.areColours(from, n, ground.colours)) {

@@ -474,8 +474,10 @@ final class Plain {
         int[] taken;
         try {
             taken = new int[Math.min(many, 100)];
+            Object part = lane == 0 ? new byte[taken.length] : lane == 1 ? new short[taken.length] : taken;
+            System.arraycopy(row, from, part, 0, taken.length);
             for (int k = 0; k < taken.length; k++) {
-                taken[k] = at(row, lane, from + k);
+                taken[k] = at(part, lane, k);
             }
         } catch (NegativeArraySizeException e) {
             return SIZE;

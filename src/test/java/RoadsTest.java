@@ -136,6 +136,7 @@ public final class RoadsTest {
         x.run(2);
         x.sheet(0, 0, 3);
         Due.is("lay of none", x.lay(0, 0, 0, 0, 0, 0), 0);
+        Due.is("lay of none from beyond", x.lay(0, 0, 4, 0, 0, 0), AntFloor.INDEX);
         x.item(0, 0, 0, 1);
         x.copy(0, 0, 0, 1, 1);
         x.type('R', 1);

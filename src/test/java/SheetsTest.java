@@ -139,9 +139,18 @@ public final class SheetsTest {
         Due.is("none, beyond the floor", x.lay(0, 0, 0, 0, 500, 500), 0);
         Due.is("none of no items", x.lay(1, 0, 0, 0, 0, 0), 0);
         Due.is("none from the end on", x.lay(0, 0, 3, 0, 0, 0), 0);
-        Due.is("none from where nothing is", x.lay(0, 0, 4, 0, 0, 0), 0);
+        Due.is("none from the end on, beyond the floor", x.lay(0, 0, 3, 0, LEAST, MOST), 0);
+        int[] beyond = {4, 60, 61, MOST, -1, LEAST};
+        for (int from : beyond) {
+            Due.is("none from " + from + " of 3", x.lay(0, 0, from, 0, 0, 0), AntFloor.INDEX);
+            Due.is("none from " + from + " of 0", x.lay(1, 0, from, 0, 500, 500), AntFloor.INDEX);
+            Due.is("none from " + from + " of nothing", x.lay(2, 0, from, 0, 0, 0), AntFloor.NULL);
+            Due.is("none from " + from + " of another lane", x.lay(0, 1, from, 0, 0, 0), AntFloor.CAST);
+        }
+        Due.is("none from 1 of 0", x.lay(1, 0, 1, 0, 0, 0), AntFloor.INDEX);
         Due.is("none of nothing", x.lay(2, 0, 0, 0, 0, 0), AntFloor.NULL);
         Due.is("none of another lane", x.lay(0, 1, 0, 0, 0, 0), AntFloor.CAST);
+        Due.is("nothing is laid", x.count(1), 0);
     }
 
     private static void layOrder() {
