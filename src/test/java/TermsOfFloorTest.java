@@ -56,7 +56,7 @@ public final class TermsOfFloorTest {
         Due.is("nothing is painted", x.count(1), 0);
     }
 
-    static void terms1_colours_two_atFirst() {
+    static void terms1_colours_twoAtFirst() {
         AntFloor x = new AntFloor();
         Due.is("count(4)", x.count(4), 2);
         Due.is("paint of 1", x.paint(0, 0, 1), 0);
