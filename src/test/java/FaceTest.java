@@ -26,7 +26,10 @@ public final class FaceTest {
         String[] names = {"BAD", "NOT", "FULL", "EDGE", "NULL", "CAST", "INDEX", "SIZE"};
         int[] values = {-1, -2, -3, -4, -11, -12, -13, -14};
         for (int i = 0; i < names.length; i++) {
-            Due.is(names[i], AntFloor.class.getField(names[i]).getInt(null), values[i]);
+            Field f = AntFloor.class.getField(names[i]);
+            Due.is(names[i], f.getInt(null), values[i]);
+            Due.isTrue(names[i] + " is public static final int",
+                f.getModifiers() == (Modifier.PUBLIC | Modifier.STATIC | Modifier.FINAL) && f.getType() == int.class);
         }
         int open = 0;
         for (Field f : AntFloor.class.getDeclaredFields()) {
@@ -38,11 +41,19 @@ public final class FaceTest {
     private static void methods() {
         int modifiers = AntFloor.class.getModifiers();
         Due.isTrue("public and final", Modifier.isPublic(modifiers) && Modifier.isFinal(modifiers));
+        Due.isTrue("it is nothing but itself",
+            AntFloor.class.getSuperclass() == Object.class && AntFloor.class.getInterfaces().length == 0);
+        for (Class<?> inside : AntFloor.class.getDeclaredClasses()) {
+            Due.isTrue(inside.getName() + " is private and static",
+                Modifier.isPrivate(inside.getModifiers()) && Modifier.isStatic(inside.getModifiers()));
+        }
         List<String> open = new ArrayList<>();
         List<String> hidden = new ArrayList<>();
         for (Method m : AntFloor.class.getDeclaredMethods()) {
             if (Modifier.isPublic(m.getModifiers())) {
                 open.add(written(m));
+                Due.isTrue(m.getName() + " is of an object, and declares no exception",
+                    !Modifier.isStatic(m.getModifiers()) && m.getExceptionTypes().length == 0);
             } else {
                 Due.isTrue(m.getName() + " is private", Modifier.isPrivate(m.getModifiers()) || m.isSynthetic());
                 hidden.add(m.getName());
